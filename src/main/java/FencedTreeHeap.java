@@ -20,7 +20,7 @@ public final class FencedTreeHeap {
     private static final int NOT_THERE = -1;
 
     private static final int EVENTS_OF_A_NODE = 5;
-    // What is done when an event of the root word is done, counted from the last node's flush.
+    // The place of each event behind those of the nodes; the last is also how many there are.
     private static final int TO_FIRST_FENCE = 1;
     private static final int TO_ROOT_STORE = 2;
     private static final int TO_ROOT_FLUSH = 3;

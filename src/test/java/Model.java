@@ -130,7 +130,8 @@ final class Model {
         flushed |= kind == ROOT_FLUSH;
     }
 
-    private static long height(int key) {
+    /** Greater for the higher one of two keys. */
+    static long height(int key) {
         int x = (key + 1) * 1664525 + 1013904223;
         return ((x ^ (x >>> 15)) & 1048575) * 10000L - key;
     }

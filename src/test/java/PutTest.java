@@ -74,7 +74,7 @@ public final class PutTest {
         test.due("put(7, 1)", x.put(7, 1), 1);
         test.due("put(60, 1)", x.put(60, 1), 1);
         test.due("put(80, 1)", x.put(80, 1), 2);
-        // On top: 7 was below 60 and stays whole on the left; 60 and 80 stay whole on the right.
+        // On top: 7 goes to the left with its node, 80 stays below 60, which is new for it lost 7.
         test.due("put(50, 1) on top", x.put(50, 1), 2);
         test.due("depth(60)", x.depth(60), 1);
         test.due("depth(7)", x.depth(7), 1);

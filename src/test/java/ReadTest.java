@@ -1,3 +1,7 @@
+import java.util.ArrayList;
+import java.util.Comparator;
+import java.util.List;
+
 /** Promises 5 to 8: get, next, depth and size. */
 public final class ReadTest {
     public static void main(String[] args) {
@@ -5,6 +9,7 @@ public final class ReadTest {
         get(test);
         next(test);
         depth(test);
+        depthOfNeighboursInRank(test);
         size(test);
         whileDown(test);
         test.finish();
@@ -75,6 +80,23 @@ public final class ReadTest {
             z.put(pair[0], 1);
             test.due("depth(" + pair[0] + ") of equal ranks", z.depth(pair[0]), 0);
             test.due("depth(" + pair[1] + ") of equal ranks", z.depth(pair[1]), 1);
+        }
+    }
+
+    private static void depthOfNeighboursInRank(Due test) {
+        List<Integer> keys = new ArrayList<>();
+        for (int key = 0; key < 4096; key++) {
+            keys.add(key);
+        }
+        keys.sort(Comparator.comparingLong(Model::height));
+        for (int i = 1; i < 4096; i++) {
+            int lower = keys.get(i - 1);
+            int higher = keys.get(i);
+            FencedTreeHeap x = new FencedTreeHeap();
+            x.put(higher, 1);
+            x.put(lower, 1);
+            test.due("depth(" + higher + ") above " + lower, x.depth(higher), 0);
+            test.due("depth(" + lower + ") below " + higher, x.depth(lower), 1);
         }
     }
 

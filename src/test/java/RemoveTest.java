@@ -48,7 +48,7 @@ public final class RemoveTest {
         test.due("depth(70)", x.depth(70), 0);
         test.due("depth(7)", x.depth(7), 1);
         test.due("depth(80)", x.depth(80), 1);
-        // 80 is higher than 7's right side and becomes the top; 7 keeps its node.
+        // Of 7 and 80 the higher one is 7: it comes to stand above 80, which keeps its node.
         test.due("remove(70)", x.remove(70), 1);
         test.due("depth(7)", x.depth(7), 0);
         test.due("depth(80)", x.depth(80), 1);

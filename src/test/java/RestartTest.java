@@ -8,6 +8,7 @@ public final class RestartTest {
         everyCutOfOtherValue(test);
         everyCutOfRemove(test);
         cutChangeIsLookedAtOnce(test);
+        refusedChangeStaysAway(test);
         crashAfterCut(test);
         test.finish();
     }
@@ -114,6 +115,22 @@ public final class RestartTest {
         x.put(50, 6);
         x.restart(true);
         test.due("get(50) after a cut at 0", x.get(50), 5);
+    }
+
+    private static void refusedChangeStaysAway(Due test) {
+        for (int done = 7; done < 9; done++) {
+            FencedTreeHeap x = Chain.full();
+            x.cut(done);
+            x.put(Chain.KEYS[0], 2);
+            x.restart(true);
+            test.due("get of what was cut", x.get(Chain.KEYS[0]), 2);
+            x.hold(0);
+            x.put(Chain.KEYS[29], 3);
+            test.due("put beyond the heap", x.put(Chain.KEYS[29], 4), FencedTreeHeap.FULL);
+            x.crash();
+            test.due("restart(true)", x.restart(true), 30);
+            test.due("get of what was refused", x.get(Chain.KEYS[29]), 3);
+        }
     }
 
     private static void crashAfterCut(Due test) {
