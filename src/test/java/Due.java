@@ -1,6 +1,9 @@
 /** Compares answers with those that are due; prints every one that is not. */
 final class Due {
     private final String test;
+    private String sentence;
+    private int sentences;
+    private int askedOfSentence;
     private int asked;
     private int wrong;
 
@@ -8,47 +11,79 @@ final class Due {
         this.test = test;
     }
 
-    void due(String call, long got, long want) {
-        asked++;
-        if (got != want) {
+    /** The words of the document that make the answers from here on due. */
+    void sentence(String words) {
+        closeSentence();
+        sentence = words;
+        sentences++;
+        askedOfSentence = 0;
+    }
+
+    private void closeSentence() {
+        if (sentence != null && askedOfSentence == 0) {
             wrong++;
-            System.out.println(test + ": " + call + " answered " + got + ", due is " + want);
+            System.out.println(test + ": nothing was asked of \"" + sentence + "\"");
         }
+    }
+
+    private void count(boolean isDue, String text) {
+        asked++;
+        askedOfSentence++;
+        if (!isDue) {
+            wrong++;
+            String of = sentence == null ? "" : "   (\"" + sentence + "\")";
+            System.out.println(test + ": " + text + of);
+        }
+    }
+
+    void due(String call, long got, long want) {
+        count(got == want, call + " answered " + got + ", due is " + want);
     }
 
     void due(String call, boolean got, boolean want) {
-        due(call, got ? 1 : 0, want ? 1 : 0);
+        count(got == want, call + " answered " + got + ", due is " + want);
     }
 
-    /** Every answer that can be asked for without a change, in one row. */
+    void due(String call, String got, String want) {
+        count(got.equals(want), call + " answered " + got + ", due is " + want);
+    }
+
+    /** Every answer that can be asked for without a change, compared with an earlier row of them. */
     void dueSame(String call, FencedTreeHeap got, String want) {
-        asked++;
         String seen = seen(got);
-        if (!seen.equals(want)) {
-            wrong++;
-            System.out.println(test + ": after " + call + " there is " + seen + ", due is " + want);
-        }
+        count(seen.equals(want), "after " + call + " there is " + seen + ", due is " + want);
     }
 
     static String seen(FencedTreeHeap x) {
         StringBuilder text = new StringBuilder();
-        text.append(x.size()).append(' ').append(x.nodes());
-        text.append(' ').append(x.events()).append(' ').append(x.fences());
-        for (int key = x.next(0); key >= 0; key = x.next(key + 1)) {
-            text.append(' ').append(key).append('=').append(x.get(key));
-            text.append('@').append(x.depth(key));
-        }
+        text.append(x.events()).append(' ').append(x.fences());
+        text.append(' ').append(x.nodes()).append(' ').append(seenMap(x));
         for (int slot = 0; slot < 2; slot++) {
-            text.append(" slot ").append(x.heldNext(slot, 0));
-            for (int key = x.heldNext(slot, 0); key >= 0; key = x.heldNext(slot, key + 1)) {
+            int key = x.heldNext(slot, Integer.MIN_VALUE);
+            text.append(" slot ").append(key);
+            while (key >= 0) {
                 text.append(' ').append(key).append('=').append(x.heldGet(slot, key));
+                key = x.heldNext(slot, key + 1);
             }
         }
         return text.toString();
     }
 
+    /** The keys with their values and depths. */
+    static String seenMap(FencedTreeHeap x) {
+        StringBuilder text = new StringBuilder();
+        text.append(x.size());
+        for (int key = x.next(Integer.MIN_VALUE); key >= 0; key = x.next(key + 1)) {
+            text.append(' ').append(key).append('=').append(x.get(key));
+            text.append('@').append(x.depth(key));
+        }
+        return text.toString();
+    }
+
     void finish() {
-        System.out.println(test + ": " + asked + " answers, " + wrong + " not as due");
+        closeSentence();
+        System.out.println(test + ": " + sentences + " sentences, " + asked + " answers, "
+            + wrong + " not as due");
         if (wrong != 0 || asked == 0) {
             System.exit(1);
         }

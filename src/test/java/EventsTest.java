@@ -10,6 +10,7 @@ public final class EventsTest {
     }
 
     private static void wholeChanges(Due test) {
+        test.sentence("How many events were done.");
         FencedTreeHeap x = new FencedTreeHeap();
         int events = 0;
         for (int i = 0; i < 30; i++) {
@@ -27,6 +28,7 @@ public final class EventsTest {
     }
 
     private static void everyCut(Due test) {
+        test.sentence("How many of the events were FENCES.");
         for (int done = 0; done < 14; done++) {
             FencedTreeHeap x = new FencedTreeHeap();
             x.put(50, 1);
@@ -48,6 +50,7 @@ public final class EventsTest {
     }
 
     private static void callsWithoutEvents(Due test) {
+        test.sentence("How many events were done.");
         FencedTreeHeap x = Chain.full();
         int events = x.events();
         int fences = x.fences();
@@ -72,6 +75,7 @@ public final class EventsTest {
     }
 
     private static void whileDown(Due test) {
+        test.sentence("How many events were done.");
         FencedTreeHeap x = new FencedTreeHeap();
         x.put(1, 1);
         x.crash();

@@ -11,6 +11,7 @@ public final class NewObjectTest {
     }
 
     private static void isEmpty(Due test) {
+        test.sentence("An empty map");
         FencedTreeHeap x = new FencedTreeHeap();
         test.due("size()", x.size(), 0);
         test.due("nodes()", x.nodes(), 0);
@@ -23,6 +24,7 @@ public final class NewObjectTest {
     }
 
     private static void holdsNothing(Due test) {
+        test.sentence("nothing held");
         FencedTreeHeap x = new FencedTreeHeap();
         for (int slot = 0; slot < 2; slot++) {
             test.due("heldGet", x.heldGet(slot, 0), FencedTreeHeap.BAD);
@@ -33,13 +35,18 @@ public final class NewObjectTest {
     }
 
     private static void isNotDown(Due test) {
+        test.sentence("the machine is not DOWN.");
         FencedTreeHeap x = new FencedTreeHeap();
         test.due("restart(true)", x.restart(true), FencedTreeHeap.BAD);
         test.due("restart(false)", x.restart(false), FencedTreeHeap.BAD);
+        test.due("size()", x.size(), 0);
+        test.due("put(5, 1)", x.put(5, 1), 1);
+        test.due("hold(0)", x.hold(0), true);
         test.due("crash()", x.crash(), true);
     }
 
     private static void hasNoCut(Due test) {
+        test.sentence("no cut set");
         FencedTreeHeap x = new FencedTreeHeap();
         for (int i = 0; i < 256; i++) {
             test.due("put(1, " + i + ")", x.put(1, i), 1);
@@ -49,6 +56,7 @@ public final class NewObjectTest {
     }
 
     private static void sharesNothing(Due test) {
+        test.sentence("An empty map, nothing held, no cut set; the machine is not DOWN.");
         FencedTreeHeap x = new FencedTreeHeap();
         x.put(7, 70);
         x.hold(0);

@@ -11,6 +11,7 @@ public final class NodesTest {
     }
 
     private static void countsEachOnce(Due test) {
+        test.sentence("How many nodes are IN USE.");
         FencedTreeHeap x = Chain.full();
         test.due("nodes()", x.nodes(), 30);
         x.hold(0);
@@ -27,6 +28,7 @@ public final class NodesTest {
     }
 
     private static void countsBothSlots(Due test) {
+        test.sentence("How many nodes are IN USE.");
         FencedTreeHeap x = Chain.full();
         x.hold(0);
         x.put(Chain.KEYS[9], 2);
@@ -46,6 +48,7 @@ public final class NodesTest {
     }
 
     private static void forgetsAfterRestart(Due test) {
+        test.sentence("How many nodes are IN USE.");
         FencedTreeHeap x = Chain.full();
         x.hold(0);
         x.put(Chain.KEYS[20], 2);
@@ -59,20 +62,22 @@ public final class NodesTest {
     }
 
     private static void cutMakesNone(Due test) {
-        FencedTreeHeap x = Chain.full();
+        test.sentence("How many nodes are IN USE.");
         for (int done = 0; done < 154; done++) {
+            FencedTreeHeap x = Chain.full();
             x.cut(done);
             x.put(Chain.KEYS[29], 2);
             x.restart(false);
             test.due("nodes() after a cut at " + done, x.nodes(), 30);
+            x.hold(0);
+            test.due("put of 30 new ones", x.put(Chain.KEYS[29], 3), 30);
+            test.due("nodes()", x.nodes(), 60);
+            test.due("heldGet", x.heldGet(0, Chain.KEYS[29]), done < 153 ? 1 : 2);
         }
-        x.hold(0);
-        x.put(Chain.KEYS[29], 3);
-        test.due("nodes()", x.nodes(), 60);
-        test.due("heldGet", x.heldGet(0, Chain.KEYS[29]), 2);
     }
 
     private static void whileDown(Due test) {
+        test.sentence("Or DOWN.");
         FencedTreeHeap x = new FencedTreeHeap();
         x.put(1, 1);
         x.crash();

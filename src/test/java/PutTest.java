@@ -3,6 +3,7 @@ public final class PutTest {
     public static void main(String[] args) {
         Due test = new Due("PutTest");
         edges(test);
+        hasItFromNowOn(test);
         wrongInputs(test);
         sameValue(test);
         countsNewNodes(test);
@@ -10,12 +11,15 @@ public final class PutTest {
         equalRanks(test);
         fullOfKeys(test);
         fullOfNodes(test);
+        whileDown(test);
+        isCut(test);
         orderOfCodes(test);
         comparesWithTheMapAlone(test);
         test.finish();
     }
 
     private static void edges(Due test) {
+        test.sentence("The key has this value from now on.");
         FencedTreeHeap x = new FencedTreeHeap();
         // 4095 has the greater rank of the two, so it is above.
         test.due("put(0, 0)", x.put(0, 0), 1);
@@ -28,7 +32,29 @@ public final class PutTest {
         test.due("get(4095)", x.get(4095), 0);
     }
 
+    private static void hasItFromNowOn(Due test) {
+        test.sentence("The key has this value from now on.");
+        FencedTreeHeap x = new FencedTreeHeap();
+        for (int i = 0; i < 30; i++) {
+            x.put(Chain.ZIGZAG[i], 100 + i);
+            test.due("get right after it", x.get(Chain.ZIGZAG[i]), 100 + i);
+        }
+        for (int i = 0; i < 30; i += 2) {
+            x.put(Chain.ZIGZAG[i], 500 + i);
+        }
+        x.hold(0);
+        x.crash();
+        x.restart(false);
+        for (int i = 0; i < 30; i++) {
+            int due = i % 2 == 0 ? 500 + i : 100 + i;
+            test.due("get(" + Chain.ZIGZAG[i] + ")", x.get(Chain.ZIGZAG[i]), due);
+            test.due("next(" + Chain.ZIGZAG[i] + ")", x.next(Chain.ZIGZAG[i]), Chain.ZIGZAG[i]);
+        }
+        test.due("size()", x.size(), 30);
+    }
+
     private static void wrongInputs(Due test) {
+        test.sentence("BAD when it is no key or no value");
         FencedTreeHeap x = new FencedTreeHeap();
         x.put(5, 10);
         String before = Due.seen(x);
@@ -45,6 +71,7 @@ public final class PutTest {
     }
 
     private static void sameValue(Due test) {
+        test.sentence("0, without any event, when it has this value already.");
         FencedTreeHeap x = Chain.full();
         String before = Due.seen(x);
         for (int key : Chain.KEYS) {
@@ -54,6 +81,7 @@ public final class PutTest {
     }
 
     private static void countsNewNodes(Due test) {
+        test.sentence("Answers how many new nodes were made");
         FencedTreeHeap x = new FencedTreeHeap();
         for (int i = 0; i < 30; i++) {
             test.due("put at the foot, " + i, x.put(Chain.KEYS[i], 1), i + 1);
@@ -70,6 +98,7 @@ public final class PutTest {
 
     // Ranks fall from 50 (967946) over 60, 70, 80 to 90 (439058); 9 has 824632, 7 has 678323.
     private static void keepsWhatASplitLeaves(Due test) {
+        test.sentence("Answers how many new nodes were made");
         FencedTreeHeap x = new FencedTreeHeap();
         test.due("put(7, 1)", x.put(7, 1), 1);
         test.due("put(60, 1)", x.put(60, 1), 1);
@@ -85,6 +114,7 @@ public final class PutTest {
     }
 
     private static void equalRanks(Due test) {
+        test.sentence("Answers how many new nodes were made");
         FencedTreeHeap x = new FencedTreeHeap();
         test.due("put(218, 1)", x.put(218, 1), 1);
         test.due("put(3701, 1) below its equal", x.put(3701, 1), 2);
@@ -96,6 +126,7 @@ public final class PutTest {
     }
 
     private static void fullOfKeys(Due test) {
+        test.sentence("FULL when there would be 31 keys");
         FencedTreeHeap x = Chain.full();
         String before = Due.seen(x);
         test.due("put of key 31", x.put(Chain.BELOW, 1), FencedTreeHeap.FULL);
@@ -107,6 +138,7 @@ public final class PutTest {
     }
 
     private static void fullOfNodes(Due test) {
+        test.sentence("or the nodes in use and the new ones would be more than 64 together");
         FencedTreeHeap x = Chain.full();
         x.hold(0);
         test.due("put at the foot, 60 in use then", x.put(Chain.KEYS[29], 2), 30);
@@ -127,7 +159,35 @@ public final class PutTest {
         test.due("put at the top, 35", x.put(Chain.KEYS[0], 4), 1);
     }
 
+    private static void whileDown(Due test) {
+        test.sentence("Or DOWN");
+        FencedTreeHeap x = new FencedTreeHeap();
+        x.put(5, 1);
+        x.crash();
+        int[][] pairs = {{5, 1}, {5, 2}, {6, 1}, {-1, 1}, {5, -1}, {4096, 1000000000}};
+        for (int[] pair : pairs) {
+            test.due("put(" + pair[0] + ", " + pair[1] + ")", x.put(pair[0], pair[1]), FencedTreeHeap.DOWN);
+        }
+        test.due("events()", x.events(), 9);
+        test.due("restart(true)", x.restart(true), 1);
+        test.due("get(5)", x.get(5), 1);
+        test.due("get(6)", x.get(6), FencedTreeHeap.ABSENT);
+    }
+
+    private static void isCut(Due test) {
+        test.sentence("more than 64 together; CUT.");
+        for (int done = 0; done <= 14; done++) {
+            FencedTreeHeap x = new FencedTreeHeap();
+            x.put(50, 1);
+            x.cut(done);
+            test.due("put(20, 2), cut at " + done, x.put(20, 2), done < 14 ? FencedTreeHeap.CUT : 2);
+            test.due("get(20)", x.get(20), done < 14 ? FencedTreeHeap.DOWN : 2);
+        }
+    }
+
     private static void orderOfCodes(Due test) {
+        test.sentence("Or DOWN; BAD when it is no key or no value; FULL when there would be 31 keys, or the nodes in"
+            + " use and the new ones would be more than 64 together; CUT.");
         FencedTreeHeap x = Chain.full();
         x.cut(0);
         test.due("wrong before full", x.put(4096, 1), FencedTreeHeap.BAD);
@@ -147,6 +207,7 @@ public final class PutTest {
     }
 
     private static void comparesWithTheMapAlone(Due test) {
+        test.sentence("Answers how many new nodes were made");
         FencedTreeHeap x = new FencedTreeHeap();
         x.put(5, 1);
         x.hold(0);

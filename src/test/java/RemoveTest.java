@@ -2,16 +2,42 @@
 public final class RemoveTest {
     public static void main(String[] args) {
         Due test = new Due("RemoveTest");
+        isGone(test);
         lastKey(test);
         chain(test);
         twoSides(test);
         absent(test);
         fullOfNodes(test);
+        whileDown(test);
+        isCut(test);
         orderOfCodes(test);
         test.finish();
     }
 
+    private static void isGone(Due test) {
+        test.sentence("The key is not in the map any more.");
+        for (int i = 0; i < 30; i++) {
+            FencedTreeHeap x = Chain.full(Chain.ZIGZAG);
+            int key = Chain.ZIGZAG[i];
+            x.remove(key);
+            test.due("get(" + key + ")", x.get(key), FencedTreeHeap.ABSENT);
+            test.due("depth(" + key + ")", x.depth(key), FencedTreeHeap.ABSENT);
+            test.due("next(" + key + ")", x.next(key) != key, true);
+            test.due("remove(" + key + ") again", x.remove(key), FencedTreeHeap.ABSENT);
+            test.due("size()", x.size(), 29);
+            for (int other : Chain.ZIGZAG) {
+                test.due("get(" + other + ")", x.get(other), other == key ? FencedTreeHeap.ABSENT : 1);
+            }
+            x.crash();
+            test.due("restart(true)", x.restart(true), 29);
+            test.due("get(" + key + ")", x.get(key), FencedTreeHeap.ABSENT);
+            test.due("put(" + key + ", 0)", x.put(key, 0), i + 1);
+            test.due("get(" + key + ")", x.get(key), 0);
+        }
+    }
+
     private static void lastKey(Due test) {
+        test.sentence("(0 is possible; there are 4 events then)");
         FencedTreeHeap x = new FencedTreeHeap();
         x.put(5, 1);
         test.due("remove(5)", x.remove(5), 0);
@@ -24,6 +50,7 @@ public final class RemoveTest {
     }
 
     private static void chain(Due test) {
+        test.sentence("Answers how many new nodes were made");
         for (int i = 0; i < 30; i++) {
             FencedTreeHeap x = Chain.full();
             int events = x.events();
@@ -37,6 +64,7 @@ public final class RemoveTest {
 
     // Ranks: 9 has 824632, 7 has 678323, 5 has 470435, 3 has 324154, 80 has 570764, 70 has 706062.
     private static void twoSides(Due test) {
+        test.sentence("Answers how many new nodes were made");
         FencedTreeHeap x = new FencedTreeHeap();
         int[] keys = {3, 5, 7, 9, 70, 80};
         for (int key : keys) {
@@ -60,6 +88,7 @@ public final class RemoveTest {
     }
 
     private static void absent(Due test) {
+        test.sentence("ABSENT when it is not in the map");
         FencedTreeHeap x = new FencedTreeHeap();
         x.put(0, 1);
         x.put(4095, 1);
@@ -72,6 +101,7 @@ public final class RemoveTest {
     }
 
     private static void fullOfNodes(Due test) {
+        test.sentence("FULL when the nodes in use and the new ones would be more than 64 together");
         FencedTreeHeap x = Chain.full();
         x.hold(0);
         x.put(Chain.KEYS[29], 2);
@@ -88,7 +118,36 @@ public final class RemoveTest {
         test.due("heldGet(1, top)", x.heldGet(1, Chain.KEYS[0]), 1);
     }
 
+    private static void whileDown(Due test) {
+        test.sentence("Or DOWN");
+        FencedTreeHeap x = new FencedTreeHeap();
+        x.put(5, 1);
+        x.crash();
+        int[] keys = {5, 6, -1, 4096, Integer.MIN_VALUE, Integer.MAX_VALUE};
+        for (int key : keys) {
+            test.due("remove(" + key + ")", x.remove(key), FencedTreeHeap.DOWN);
+        }
+        test.due("events()", x.events(), 9);
+        test.due("restart(true)", x.restart(true), 1);
+    }
+
+    private static void isCut(Due test) {
+        test.sentence("more than 64 together; CUT.");
+        for (int done = 0; done <= 9; done++) {
+            FencedTreeHeap x = Chain.first(2);
+            x.cut(done);
+            test.due("remove of 9 events, cut at " + done, x.remove(45), done < 9 ? FencedTreeHeap.CUT : 1);
+            test.due("size()", x.size(), done < 9 ? FencedTreeHeap.DOWN : 1);
+            FencedTreeHeap y = Chain.first(1);
+            y.cut(done);
+            test.due("remove of 4 events, cut at " + done, y.remove(28), done < 4 ? FencedTreeHeap.CUT : 0);
+            test.due("size()", y.size(), done < 4 ? FencedTreeHeap.DOWN : 0);
+        }
+    }
+
     private static void orderOfCodes(Due test) {
+        test.sentence("Or DOWN; ABSENT when it is not in the map; FULL when the nodes in use and the new ones would"
+            + " be more than 64 together; CUT.");
         FencedTreeHeap x = Chain.full();
         x.hold(0);
         x.put(Chain.KEYS[29], 2);

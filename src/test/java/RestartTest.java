@@ -3,6 +3,8 @@ public final class RestartTest {
     public static void main(String[] args) {
         Due test = new Due("RestartTest");
         crash(test);
+        crashTwice(test);
+        startsAgain(test);
         restartAnswers(test);
         everyCutOfPut(test);
         everyCutOfOtherValue(test);
@@ -14,6 +16,7 @@ public final class RestartTest {
     }
 
     private static void crash(Due test) {
+        test.sentence("The power goes.");
         FencedTreeHeap x = new FencedTreeHeap();
         x.put(1, 10);
         x.put(2, 20);
@@ -26,7 +29,39 @@ public final class RestartTest {
         }
     }
 
+    private static void crashTwice(Due test) {
+        test.sentence("Answers true; false when the machine is DOWN already.");
+        FencedTreeHeap x = new FencedTreeHeap();
+        for (int i = 0; i < 3; i++) {
+            test.due("crash()", x.crash(), true);
+            test.due("crash() again", x.crash(), false);
+            test.due("crash() once more", x.crash(), false);
+            x.restart(i == 1);
+        }
+    }
+
+    private static void startsAgain(Due test) {
+        test.sentence("The machine starts again.");
+        for (int way = 0; way < 2; way++) {
+            FencedTreeHeap x = new FencedTreeHeap();
+            x.put(1, 10);
+            x.crash();
+            test.due("size() while down", x.size(), FencedTreeHeap.DOWN);
+            test.due("restart", x.restart(way == 1), 1);
+            test.due("size()", x.size(), 1);
+            test.due("put(2, 20)", x.put(2, 20) > 0, true);
+            test.due("hold(0)", x.hold(0), true);
+            test.due("heldGet(0, 2)", x.heldGet(0, 2), 20);
+            x.cut(0);
+            test.due("remove(1)", x.remove(1), FencedTreeHeap.CUT);
+            test.due("restart", x.restart(way == 1), 2);
+            test.due("remove(1)", x.remove(1) >= 0, true);
+            test.due("size()", x.size(), 1);
+        }
+    }
+
     private static void restartAnswers(Due test) {
+        test.sentence("Answers how many keys the map has; BAD when it is not DOWN.");
         FencedTreeHeap x = new FencedTreeHeap();
         test.due("restart(true)", x.restart(true), FencedTreeHeap.BAD);
         x.crash();
@@ -48,6 +83,7 @@ public final class RestartTest {
 
     // 50 has the greater rank, so that 20 is made below it and both nodes are new.
     private static void everyCutOfPut(Due test) {
+        test.sentence("(When a change was cut, evicted says whether all words were EVICTED.)");
         for (int done = 0; done < 14; done++) {
             for (int way = 0; way < 2; way++) {
                 FencedTreeHeap x = new FencedTreeHeap();
@@ -65,6 +101,7 @@ public final class RestartTest {
     }
 
     private static void everyCutOfOtherValue(Due test) {
+        test.sentence("(When a change was cut, evicted says whether all words were EVICTED.)");
         for (int done = 0; done < 9; done++) {
             for (int way = 0; way < 2; way++) {
                 FencedTreeHeap x = new FencedTreeHeap();
@@ -78,6 +115,7 @@ public final class RestartTest {
     }
 
     private static void everyCutOfRemove(Due test) {
+        test.sentence("(When a change was cut, evicted says whether all words were EVICTED.)");
         for (int done = 0; done < 4; done++) {
             for (int way = 0; way < 2; way++) {
                 FencedTreeHeap x = new FencedTreeHeap();
@@ -92,6 +130,7 @@ public final class RestartTest {
     }
 
     private static void cutChangeIsLookedAtOnce(Due test) {
+        test.sentence("After a crash without a change under way it is as it was.");
         FencedTreeHeap x = new FencedTreeHeap();
         x.put(50, 1);
         x.cut(7);
@@ -118,6 +157,7 @@ public final class RestartTest {
     }
 
     private static void refusedChangeStaysAway(Due test) {
+        test.sentence("After a crash without a change under way it is as it was.");
         for (int done = 7; done < 9; done++) {
             FencedTreeHeap x = Chain.full();
             x.cut(done);
@@ -134,6 +174,7 @@ public final class RestartTest {
     }
 
     private static void crashAfterCut(Due test) {
+        test.sentence("Answers true; false when the machine is DOWN already.");
         FencedTreeHeap x = new FencedTreeHeap();
         x.cut(7);
         x.put(1, 1);
