@@ -7,6 +7,7 @@ public final class TermsChangeTest {
     public static void main(String[] args) {
         Due test = new Due("TermsChangeTest");
         everyKeyHasANode(test);
+        subtree(test);
         otherValue(test);
         newKey(test);
         removedKey(test);
@@ -44,6 +45,22 @@ public final class TermsChangeTest {
                 test.due("nodes() of " + i, x.nodes(), i);
             }
         }
+    }
+
+    // Another value of a key changes the subtrees that it is in: its own and that of each above it.
+    private static void subtree(Due test) {
+        test.sentence("The SUBTREE of a key is the key itself and all that is below it");
+        for (int[] shape : Chain.SHAPES) {
+            for (int depth = 0; depth < 30; depth++) {
+                FencedTreeHeap x = Chain.full(shape);
+                test.due("put at depth " + depth, x.put(shape[depth], 2), depth + 1);
+            }
+        }
+        FencedTreeHeap y = six();
+        y.hold(0);
+        test.due("put(7, 2), in the subtrees of 7 and 9", y.put(7, 2), 2);
+        test.due("put(70, 2), in the subtrees of 70 and 9", y.put(70, 2), 2);
+        test.due("nodes(), of 7, 9 and 70 two each", y.nodes(), 9);
     }
 
     private static final String NEW_NODES = "A CHANGE of the map, from one state to another, makes a new node for"

@@ -145,8 +145,8 @@ public final class TermsEventsTest {
         }
     }
 
-    private static final String NOT_NOTICED = "(A call that comes to its end without that event does not notice the cut;"
-        + " what is left of it stays set.)";
+    private static final String NOT_NOTICED = "(A call that comes to its end without that event does not notice the"
+        + " cut; what is left of it stays set.)";
 
     private static void rightBehindTheLastEvent(Due test) {
         test.sentence(NOT_NOTICED);

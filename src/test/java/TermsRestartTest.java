@@ -1,8 +1,8 @@
 /** "Terms": the restart after a change that was cut, and after a crash without one. */
 public final class TermsRestartTest {
-    private static final String AFTER_A_CUT = "When the machine starts again after a change that was cut, the map is in"
-        + " the new state if the flush of the root word was done, or if its store was done and all words were EVICTED"
-        + " (written back by themselves) before the power went; otherwise it is in the old state.";
+    private static final String AFTER_A_CUT = "When the machine starts again after a change that was cut, the map is"
+        + " in the new state if the flush of the root word was done, or if its store was done and all words were"
+        + " EVICTED (written back by themselves) before the power went; otherwise it is in the old state.";
     private static final String AFTER_A_CRASH = "After a crash without a change under way it is as it was.";
 
     public static void main(String[] args) {
