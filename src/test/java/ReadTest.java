@@ -12,7 +12,10 @@ public final class ReadTest {
         depth(test);
         depthAbsent(test);
         size(test);
-        whileDown(test);
+        getWhileDown(test);
+        nextWhileDown(test);
+        depthWhileDown(test);
+        sizeWhileDown(test);
         test.finish();
     }
 
@@ -145,28 +148,56 @@ public final class ReadTest {
         }
     }
 
-    private static void whileDown(Due test) {
-        test.sentence("How many keys the map has. Or DOWN.");
+    private static final int[] ASKED_DOWN = {0, 1, 9, -1, 4096, Integer.MIN_VALUE, Integer.MAX_VALUE};
+
+    private static FencedTreeHeap someDown() {
         FencedTreeHeap x = some();
         x.crash();
-        int[] keys = {0, 1, -1, 4096, Integer.MIN_VALUE, Integer.MAX_VALUE};
-        for (int key : keys) {
-            test.due("get while down", x.get(key), FencedTreeHeap.DOWN);
-            test.due("next while down", x.next(key), FencedTreeHeap.DOWN);
-            test.due("depth while down", x.depth(key), FencedTreeHeap.DOWN);
-        }
-        test.due("size while down", x.size(), FencedTreeHeap.DOWN);
-        x.restart(false);
-        test.due("get after it", x.get(0), 10);
-        test.due("next after it", x.next(1), 7);
-        test.due("depth after it", x.depth(0), 3);
-        test.due("size after it", x.size(), 4);
-        test.due("size while down with no keys", downWithNone().size(), FencedTreeHeap.DOWN);
+        return x;
     }
 
-    private static FencedTreeHeap downWithNone() {
-        FencedTreeHeap x = new FencedTreeHeap();
-        x.crash();
-        return x;
+    private static void getWhileDown(Due test) {
+        test.sentence("The value of a key. Or DOWN; ABSENT.");
+        FencedTreeHeap x = someDown();
+        for (int key : ASKED_DOWN) {
+            test.due("get(" + key + ") while down", x.get(key), FencedTreeHeap.DOWN);
+        }
+        x.restart(false);
+        test.due("get(0) after it", x.get(0), 10);
+    }
+
+    private static void nextWhileDown(Due test) {
+        test.sentence("Or DOWN; ABSENT when there is none.");
+        FencedTreeHeap x = someDown();
+        for (int key : ASKED_DOWN) {
+            test.due("next(" + key + ") while down", x.next(key), FencedTreeHeap.DOWN);
+        }
+        x.restart(false);
+        test.due("next(1) after it", x.next(1), 7);
+    }
+
+    private static void depthWhileDown(Due test) {
+        test.sentence("The DEPTH of a key. Or DOWN; ABSENT.");
+        FencedTreeHeap x = someDown();
+        for (int key : ASKED_DOWN) {
+            test.due("depth(" + key + ") while down", x.depth(key), FencedTreeHeap.DOWN);
+        }
+        x.restart(false);
+        test.due("depth(0) after it", x.depth(0), 3);
+    }
+
+    private static void sizeWhileDown(Due test) {
+        test.sentence("How many keys the map has. Or DOWN.");
+        FencedTreeHeap x = someDown();
+        test.due("size() while down", x.size(), FencedTreeHeap.DOWN);
+        x.restart(false);
+        test.due("size() after it", x.size(), 4);
+        FencedTreeHeap y = new FencedTreeHeap();
+        y.crash();
+        test.due("size() while down with no keys", y.size(), FencedTreeHeap.DOWN);
+        y.restart(true);
+        y.cut(0);
+        y.put(1, 1);
+        test.due("size() after a cut", y.size(), FencedTreeHeap.DOWN);
     }
 }
